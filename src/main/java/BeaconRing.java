@@ -19,7 +19,7 @@ public final class BeaconRing {
     private int wholePublicKey;
 
     public BeaconRing() {
-        // Row 0 of each array stays unused: nodes are counted from 1.
+        // Row 0 of these stays unused: nodes are counted from 1.
         dealers = new Dealer[MOST_NODES + 1];
         for (int i = 0; i <= MOST_NODES; i++) {
             dealers[i] = new Dealer();

@@ -1,5 +1,7 @@
 import java.math.BigInteger;
+import java.util.HashMap;
 import java.util.List;
+import java.util.Map;
 
 /** Promises 12 to 18: round, says, offer, value, publish, ended, random. */
 public final class RoundsTest {
@@ -14,9 +16,12 @@ public final class RoundsTest {
         offerByAnother();
         offerOfSumsThatLeave();
         offerOfAnotherProof();
+        offerAboveTheGroup();
+        offerOfKeyZero();
         value();
         valueOfWrongShares();
         publish();
+        publishByTheLastNodes();
         threeHundredRounds();
         ended();
         random();
@@ -116,22 +121,63 @@ public final class RoundsTest {
     private static void offerOfAnotherProof() {
         Run run = closed("promise 14, another proof");
         BigInteger base = Terms.base(Terms.message(9, 1));
-        BigInteger key = keyOf(2);
-        BigInteger open = Terms.G.modPow(key, Terms.P);
-        long[] said = {run.ask("says", 2, 0), run.ask("says", 2, 1), run.ask("says", 2, 2)};
-        BigInteger outside = Terms.P.subtract(BigInteger.valueOf(said[0]));
-        for (BigInteger part : List.of(outside, BigInteger.valueOf(said[0]))) {
-            int tries = 0;
-            BigInteger[] proof;
-            do {
-                tries++;
-                proof = proofBy(BigInteger.valueOf(tries), base, open, part, key);
-                // p - part is -part, so only an even c makes the equation true for it.
-            } while (proof[0].testBit(0));
-            long[] more = {part.longValue() - said[0], proof[0].longValue() - said[1], proof[1].longValue() - said[2]};
-            run.gives(part.equals(outside) ? 0 : 1, "offer", 2, 2, more[0], more[1], more[2]);
+        BigInteger part = base.modPow(keyOf(2), Terms.P);
+        BigInteger outside = Terms.P.subtract(part);
+        // p - part is -part: by the evenness of c its powers are those of the part or not, so both are tried.
+        for (int w = 1; w <= 12; w++) {
+            run.gives(0, "offer", offerBy(run, 2, BigInteger.valueOf(w), base, outside, keyOf(2)));
         }
+        run.gives(0, "round", 3).gives(1, "offer", offerBy(run, 2, BigInteger.TEN, base, part, keyOf(2)));
         run.gives(4, "round", 3);
+    }
+
+    /** A key whose part is 4: then p + 4 is the same modulo p, but no number of the group. */
+    private static void offerAboveTheGroup() {
+        BigInteger base = Terms.base(Terms.message(9, 1));
+        BigInteger key = logarithmOf(Terms.G, base);
+        Run run = withKey("promise 14, above the group", key).gives(4, "says", 1, 0);
+        run.gives(0, "offer", offerBy(run, 1, BigInteger.TEN, base, Terms.P.add(Terms.G), key));
+        run.gives(1, "offer", offerBy(run, 1, BigInteger.TEN, base, Terms.G, key)).gives(4, "publish");
+    }
+
+    private static void offerOfKeyZero() {
+        Run run = withKey("promise 14, key 0", BigInteger.ZERO).gives(0, "key", 1, 0).gives(1, "key", 1, 1);
+        run.gives(1, "says", 1, 0).gives(Terms.nonce(BigInteger.ZERO, Terms.message(9, 1)).longValue(), "says", 1, 2);
+        run.gives(0, "offer", 1, 1, -1, 0, 0).gives(1, "offer", 1, 1, 0, 0, 0).gives(1, "value", 2).gives(1, "publish");
+    }
+
+    /** One node whose only share is spoiled until it is this key, closed with 9. */
+    private static Run withKey(String title, BigInteger key) {
+        BigInteger more = key.subtract(Terms.share(1, 1, 1, 1)).mod(Terms.Q);
+        return new Run(title).does("begin", 1, 1).does("deal", 1, 1).does("spoil", 1, 1, more.longValue()).does("close", 9);
+    }
+
+    /** The exponent that makes the base this number, by small steps and great ones. */
+    private static BigInteger logarithmOf(BigInteger number, BigInteger base) {
+        int width = 32769;
+        Map<BigInteger, Integer> small = new HashMap<>();
+        BigInteger step = BigInteger.ONE;
+        for (int i = 0; i < width; i++) {
+            small.put(step, i);
+            step = step.multiply(base).mod(Terms.P);
+        }
+        BigInteger back = step.modInverse(Terms.P);
+        BigInteger rest = number;
+        for (long i = 0; i < width; i++) {
+            if (small.containsKey(rest)) {
+                return BigInteger.valueOf(i * width + small.get(rest));
+            }
+            rest = rest.multiply(back).mod(Terms.P);
+        }
+        throw new AssertionError("the number is no power of the base");
+    }
+
+    /** The numbers of an offer that brings this part with the proof that w makes for it. */
+    private static long[] offerBy(Run run, int node, BigInteger w, BigInteger base, BigInteger part, BigInteger key) {
+        BigInteger[] proof = proofBy(w, base, Terms.G.modPow(key, Terms.P), part, key);
+        long toPart = part.longValue() - run.ask("says", node, 0);
+        long toC = proof[0].longValue() - run.ask("says", node, 1);
+        return new long[] {node, node, toPart, toC, proof[1].longValue() - run.ask("says", node, 2)};
     }
 
     private static BigInteger[] proofBy(BigInteger w, BigInteger base, BigInteger open, BigInteger part, BigInteger key) {
@@ -180,6 +226,13 @@ public final class RoundsTest {
         run.gives(1, "offer", 1, 1, 0, 0, 0).gives(1, "offer", 2, 2, 0, 0, 0).gives(1, "offer", 3, 3, 0, 0, 0);
         int second = valueAfter(first, 2);
         run.gives(second, "publish").gives(first, "ended", 1).gives(second, "ended", 2).gives(2, "about", 7);
+    }
+
+    private static void publishByTheLastNodes() {
+        Run run = new Run("promise 16, the last nodes").does("begin", 16, 2).does("deal", 4, 4).does("close", 1);
+        run.gives(1, "offer", 16, 16, 0, 0, 0).gives(1, "offer", 15, 15, 0, 0, 0).gives(98304, "round", 3);
+        BigInteger base = Terms.base(Terms.message(1, 1));
+        run.gives(base.modPow(Terms.coefficient(4, 4, 0), Terms.P).longValue(), "publish").gives(0, "round", 2);
     }
 
     /** No run of 512 calls gets as far as 300 rounds, but the promise is kept there too. */
