@@ -1,6 +1,6 @@
 import java.math.BigInteger;
 
-/** Promises 10, 11 and 19: close, key, about. */
+/** Promises 10, 11 and 19 in ordinary runs: close, key, about. */
 public final class ClosingTest {
     private static final int Q = 1073741789;
 

@@ -1,12 +1,11 @@
 import java.math.BigInteger;
 
-/** Promises 1 to 9: a new object, begin, deal, spoil, commitment, share, isRight, complain, answer. */
+/** Promises 2 to 9 in ordinary runs: begin, deal, spoil, commitment, share, isRight, complain, answer. */
 public final class DealingTest {
     private static final int Q = 1073741789;
 
     public static void main(String[] args) {
         termsAgreeWithKnownNumbers();
-        newObject();
         begin();
         beginAnew();
         deal();
@@ -31,20 +30,6 @@ public final class DealingTest {
 
     private static int due(long seed, int dealer, int node, int t) {
         return Terms.share(seed, dealer, node, t).intValueExact();
-    }
-
-    private static void newObject() {
-        Run run = new Run("promise 1");
-        for (int what = 0; what <= 7; what++) {
-            run.gives(0, "about", what);
-        }
-        run.gives(0, "complain").refuses(Run.STATE, "close", 1);
-        run.refuses(Run.ARGUMENT, "deal", 1, 1).refuses(Run.ARGUMENT, "deal", 0, 1);
-        run.refuses(Run.ARGUMENT, "share", 1, 1).refuses(Run.ARGUMENT, "commitment", 1, 0);
-        run.refuses(Run.ARGUMENT, "spoil", 1, 1, 0).refuses(Run.ARGUMENT, "isRight", 1, 1, 0);
-        run.refuses(Run.ARGUMENT, "answer", 1, 1, 0).refuses(Run.ARGUMENT, "key", 1, 0);
-        run.refuses(Run.STATE, "key", 0, 1).refuses(Run.STATE, "publish").refuses(Run.STATE, "ended", 0);
-        Run.check(BeaconRing.NONE == -1, "NONE is -1");
     }
 
     private static void begin() {

@@ -58,6 +58,7 @@ public final class FaceTest {
         }
         Set<String> due = new TreeSet<>(Arrays.asList(FACE));
         Run.check(seen.equals(due), "the public methods are " + seen + ", due are " + due);
+        Run.check(BeaconRing.NONE == -1, "NONE is -1");
         Constructor<?>[] constructors = owner.getDeclaredConstructors();
         Run.check(constructors.length == 1 && constructors[0].getParameterCount() == 0
                 && Modifier.isPublic(constructors[0].getModifiers()), "one public constructor without parameters");

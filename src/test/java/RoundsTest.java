@@ -1,12 +1,8 @@
 import java.math.BigInteger;
-import java.util.HashMap;
 import java.util.List;
-import java.util.Map;
 
-/** Promises 12 to 18: round, says, offer, value, publish, ended, random. */
+/** Promises 12 to 18 in ordinary runs: round, says, offer, value, publish, ended, random. */
 public final class RoundsTest {
-    private static final int P = 2147483579;
-    private static final int Q = 1073741789;
     private static final int MOST = Integer.MAX_VALUE;
 
     public static void main(String[] args) {
@@ -14,15 +10,10 @@ public final class RoundsTest {
         says();
         offer();
         offerByAnother();
-        offerOfSumsThatLeave();
-        offerOfAnotherProof();
-        offerAboveTheGroup();
-        offerOfKeyZero();
         value();
         valueOfWrongShares();
         publish();
         publishByTheLastNodes();
-        threeHundredRounds();
         ended();
         random();
         Run.end();
@@ -100,91 +91,6 @@ public final class RoundsTest {
         run.gives(part, "value", 8).gives(part, "value", 2).refuses(Run.ARGUMENT, "value", 4);
     }
 
-    private static void offerOfSumsThatLeave() {
-        Run run = closed("promise 14, sums");
-        long part = run.ask("says", 2, 0);
-        long c = run.ask("says", 2, 1);
-        long z = run.ask("says", 2, 2);
-        run.gives(0, "offer", 2, 2, MOST - part, 0, 0).gives(0, "offer", 2, 2, MOST - part + 1, 0, 0);
-        run.gives(0, "offer", 2, 2, -part, 0, 0).gives(0, "offer", 2, 2, -part - 1, 0, 0);
-        run.gives(0, "offer", 2, 2, P - part, 0, 0).gives(0, "offer", 2, 2, P - 1 - part, 0, 0);
-        run.gives(0, "offer", 2, 2, 0, -c, 0).gives(0, "offer", 2, 2, 0, -c - 1, 0).gives(0, "offer", 2, 2, 0, MOST, 0);
-        // c + q and z + q are the same exponents, but not numbers of 0 .. q - 1.
-        run.gives(0, "offer", 2, 2, 0, Q, 0).gives(0, "offer", 2, 2, 0, 0, Q).gives(0, "offer", 2, 2, 0, 0, -Q);
-        run.gives(0, "offer", 2, 2, 0, 0, -z).gives(0, "offer", 2, 2, 0, 0, -z - 1).gives(0, "offer", 2, 2, 0, 0, MOST);
-        run.gives(0, "offer", 2, 2, MOST, MOST, MOST);
-        run.gives(0, "offer", 2, 2, Integer.MIN_VALUE, Integer.MIN_VALUE, Integer.MIN_VALUE);
-        run.gives(0, "round", 3).gives(1, "offer", 2, 2, 0, 0, 0);
-    }
-
-    /** Who knows the key can make other proofs; they hold as well, but none does for a part outside the group. */
-    private static void offerOfAnotherProof() {
-        Run run = closed("promise 14, another proof");
-        BigInteger base = Terms.base(Terms.message(9, 1));
-        BigInteger part = base.modPow(keyOf(2), Terms.P);
-        BigInteger outside = Terms.P.subtract(part);
-        // p - part is -part: by the evenness of c its powers are those of the part or not, so both are tried.
-        for (int w = 1; w <= 12; w++) {
-            run.gives(0, "offer", offerBy(run, 2, BigInteger.valueOf(w), base, outside, keyOf(2)));
-        }
-        run.gives(0, "round", 3).gives(1, "offer", offerBy(run, 2, BigInteger.TEN, base, part, keyOf(2)));
-        run.gives(4, "round", 3);
-    }
-
-    /** A key whose part is 4: then p + 4 is the same modulo p, but no number of the group. */
-    private static void offerAboveTheGroup() {
-        BigInteger base = Terms.base(Terms.message(9, 1));
-        BigInteger key = logarithmOf(Terms.G, base);
-        Run run = withKey("promise 14, above the group", key).gives(4, "says", 1, 0);
-        run.gives(0, "offer", offerBy(run, 1, BigInteger.TEN, base, Terms.P.add(Terms.G), key));
-        run.gives(1, "offer", offerBy(run, 1, BigInteger.TEN, base, Terms.G, key)).gives(4, "publish");
-    }
-
-    private static void offerOfKeyZero() {
-        Run run = withKey("promise 14, key 0", BigInteger.ZERO).gives(0, "key", 1, 0).gives(1, "key", 1, 1);
-        run.gives(1, "says", 1, 0).gives(Terms.nonce(BigInteger.ZERO, Terms.message(9, 1)).longValue(), "says", 1, 2);
-        run.gives(0, "offer", 1, 1, -1, 0, 0).gives(1, "offer", 1, 1, 0, 0, 0).gives(1, "value", 2).gives(1, "publish");
-    }
-
-    /** One node whose only share is spoiled until it is this key, closed with 9. */
-    private static Run withKey(String title, BigInteger key) {
-        BigInteger more = key.subtract(Terms.share(1, 1, 1, 1)).mod(Terms.Q);
-        return new Run(title).does("begin", 1, 1).does("deal", 1, 1).does("spoil", 1, 1, more.longValue()).does("close", 9);
-    }
-
-    /** The exponent that makes the base this number, by small steps and great ones. */
-    private static BigInteger logarithmOf(BigInteger number, BigInteger base) {
-        int width = 32769;
-        Map<BigInteger, Integer> small = new HashMap<>();
-        BigInteger step = BigInteger.ONE;
-        for (int i = 0; i < width; i++) {
-            small.put(step, i);
-            step = step.multiply(base).mod(Terms.P);
-        }
-        BigInteger back = step.modInverse(Terms.P);
-        BigInteger rest = number;
-        for (long i = 0; i < width; i++) {
-            if (small.containsKey(rest)) {
-                return BigInteger.valueOf(i * width + small.get(rest));
-            }
-            rest = rest.multiply(back).mod(Terms.P);
-        }
-        throw new AssertionError("the number is no power of the base");
-    }
-
-    /** The numbers of an offer that brings this part with the proof that w makes for it. */
-    private static long[] offerBy(Run run, int node, BigInteger w, BigInteger base, BigInteger part, BigInteger key) {
-        BigInteger[] proof = proofBy(w, base, Terms.G.modPow(key, Terms.P), part, key);
-        long toPart = part.longValue() - run.ask("says", node, 0);
-        long toC = proof[0].longValue() - run.ask("says", node, 1);
-        return new long[] {node, node, toPart, toC, proof[1].longValue() - run.ask("says", node, 2)};
-    }
-
-    private static BigInteger[] proofBy(BigInteger w, BigInteger base, BigInteger open, BigInteger part, BigInteger key) {
-        BigInteger c = Terms.challenge(base, open, part, Terms.G.modPow(w, Terms.P), base.modPow(w, Terms.P));
-        return new BigInteger[] {c, w.add(c.multiply(key)).mod(Terms.Q)};
-    }
-
     private static void value() {
         open("promise 15, open").refuses(Run.STATE, "value", 6).refuses(Run.STATE, "value", 0);
         int due = valueAfter(9, 1);
@@ -233,17 +139,6 @@ public final class RoundsTest {
         run.gives(1, "offer", 16, 16, 0, 0, 0).gives(1, "offer", 15, 15, 0, 0, 0).gives(98304, "round", 3);
         BigInteger base = Terms.base(Terms.message(1, 1));
         run.gives(base.modPow(Terms.coefficient(4, 4, 0), Terms.P).longValue(), "publish").gives(0, "round", 2);
-    }
-
-    /** No run of 512 calls gets as far as 300 rounds, but the promise is kept there too. */
-    private static void threeHundredRounds() {
-        Run run = new Run("promise 16, 300 rounds").does("begin", 1, 1).does("deal", 1, 1).does("close", 1);
-        for (int round = 1; round <= 300; round++) {
-            run.gives(1, "offer", 1, 1, 0, 0, 0).does("publish");
-        }
-        run.gives(300, "about", 7).gives(301, "round", 0).refuses(Run.STATE, "publish");
-        run.gives(1, "offer", 1, 1, 0, 0, 0).refuses(Run.UNSUPPORTED, "publish").gives(2, "round", 3);
-        run.does("value", 2).does("ended", 300).refuses(Run.ARGUMENT, "ended", 301);
     }
 
     private static void ended() {

@@ -33,13 +33,31 @@ final class Run {
         return this;
     }
 
+    /** A call that answers and changes nothing. */
+    Run leaves(long want, String name, long... arguments) {
+        return makeWithoutChange(Long.toString(want), new Call(name, arguments));
+    }
+
+    /** A call that throws, which may change nothing. */
     Run refuses(String exception, String name, long... arguments) {
-        Call call = new Call(name, arguments);
-        List<String> before = lookAfter(history);
-        compare(call, make(call), exception);
-        if (!before.equals(lookAfter(history))) {
-            tell(call, "with a change", "no change");
+        return makeWithoutChange(exception, new Call(name, arguments));
+    }
+
+    /** The same call with each of these numbers in one place of its arguments. */
+    Run refusesEach(String exception, long[] numbers, int place, String name, long... arguments) {
+        for (long number : numbers) {
+            long[] changed = arguments.clone();
+            changed[place] = number;
+            refuses(exception, name, changed);
         }
+        return this;
+    }
+
+    /** Whether this object can't be told from a new one after the calls of another run. */
+    Run looksLike(Run other) {
+        List<String> mine = Look.after(history);
+        List<String> due = Look.after(other.history);
+        check(mine.equals(due), title + ": looks like " + mine + ", due is " + due);
         return this;
     }
 
@@ -68,6 +86,22 @@ final class Run {
         return call.on(ring);
     }
 
+    private Run makeWithoutChange(String want, Call call) {
+        List<String> before = Look.after(history);
+        compare(call, make(call), want);
+        List<String> after = Look.after(history);
+        for (int i = 0; i < Math.min(before.size(), after.size()); i++) {
+            if (!before.get(i).equals(after.get(i))) {
+                tell(call, "and then " + after.get(i), before.get(i) + " as before");
+                return this;
+            }
+        }
+        if (before.size() != after.size()) {
+            tell(call, "with a change", "no change");
+        }
+        return this;
+    }
+
     private void compare(Call call, String got, String want) {
         if (!got.equals(want)) {
             tell(call, got, want);
@@ -76,34 +110,5 @@ final class Run {
 
     private void tell(Call call, String got, String want) {
         check(false, title + ", call " + history.size() + ": " + call.text() + " answered " + got + ", due is " + want);
-    }
-
-    /** All that can be seen of a new object after some calls; the object of the run is left alone. */
-    private static List<String> lookAfter(List<Call> calls) {
-        BeaconRing other = new BeaconRing();
-        calls.forEach(call -> call.on(other));
-        List<String> seen = new ArrayList<>();
-        look(other, seen, "about", 7, -1);
-        look(other, seen, "round", 3, -1);
-        look(other, seen, "ended", other.about(7) + 1, -1);
-        look(other, seen, "share", 3, 3);
-        look(other, seen, "commitment", 3, 2);
-        look(other, seen, "key", 3, 1);
-        look(other, seen, "says", 3, 2);
-        // These change the object, so they come last.
-        seen.add(new Call("publish").on(other));
-        seen.add(new Call("complain").on(other));
-        return seen;
-    }
-
-    private static void look(BeaconRing ring, List<String> seen, String name, int most, int mostSecond) {
-        for (int i = 0; i <= most; i++) {
-            if (mostSecond < 0) {
-                seen.add(new Call(name, i).on(ring));
-            }
-            for (int j = 0; j <= mostSecond; j++) {
-                seen.add(new Call(name, i, j).on(ring));
-            }
-        }
     }
 }

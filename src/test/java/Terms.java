@@ -21,6 +21,22 @@ final class Terms {
         return h.longValue();
     }
 
+    /** The number x for which HASH(x, rest) is this one: every step of HASH can be walked back. */
+    static long firstOf(long hash, long... rest) {
+        long h = hash;
+        for (int i = rest.length - 1; i >= 0; i--) {
+            h = stepBack(h) - rest[i];
+        }
+        return stepBack(h);
+    }
+
+    private static long stepBack(long hash) {
+        long s = hash ^ hash >>> 32;
+        s *= new BigInteger("2862933555777941757").modInverse(WORD).longValue();
+        s ^= s >>> 29 ^ s >>> 58;
+        return (s - 1442695040888963407L) * new BigInteger("6364136223846793005").modInverse(WORD).longValue();
+    }
+
     static BigInteger modulo(long hash, BigInteger m) {
         return BigInteger.valueOf(hash).mod(m);
     }
