@@ -13,6 +13,7 @@ public final class DealingEdgesTest {
         beginOfWrongT();
         beginAtTheEnds();
         beginMakesAllAsAtFirst();
+        beginMakesAllOfSixteenAsAtFirst();
         dealOfNoNode();
         dealOfOneThatHasDealt();
         dealWhenClosed();
@@ -33,6 +34,7 @@ public final class DealingEdgesTest {
         complainOfNothing();
         complainOfAll();
         complainKeepsThoseOfBefore();
+        complainAboutOneThatIsOut();
         complainWhenClosed();
         answerOfWrongArguments();
         answerWithoutSuchComplaint();
@@ -101,6 +103,22 @@ public final class DealingEdgesTest {
             Setups.closed("promise 2: all is as at first, closed").does("begin", pair).looksLike(fresh);
             Setups.inRoundTwo("promise 2: all is as at first, in a round").does("begin", pair).looksLike(fresh);
         }
+    }
+
+    private static void beginMakesAllOfSixteenAsAtFirst() {
+        Run run = new Run("promise 2: all is as at first, sixteen").does("begin", 16, 16);
+        for (int i = 1; i <= 16; i++) {
+            run.does("deal", i, i).does("spoil", i, i, 1);
+        }
+        run.gives(16, "complain");
+        for (int i = 2; i <= 16; i++) {
+            run.gives(0, "answer", i, i, 1);
+        }
+        run.gives(1, "answer", 1, 1, 0).gives(1, "close", 3);
+        for (int k = 1; k <= 16; k++) {
+            run.gives(1, "offer", k, k, 0, 0, 0);
+        }
+        run.does("begin", 16, 16).looksLike(new Run("promise 2: a new object").does("begin", 16, 16));
     }
 
     private static void dealOfNoNode() {
@@ -268,6 +286,12 @@ public final class DealingEdgesTest {
         run.gives(1, "answer", 1, 3, 0).leaves(2, "complain").gives(1, "answer", 2, 4, 0).leaves(1, "complain");
         run.gives(1, "answer", 3, 1, 0).leaves(0, "complain");
         run.does("spoil", 1, 3, 7).gives(0, "about", 3).gives(1, "complain");
+    }
+
+    private static void complainAboutOneThatIsOut() {
+        Run run = Setups.dealt("promise 8: all their shares, of one that is out too").does("spoil", 1, 3, Q - 7);
+        run.leaves(2, "complain").does("spoil", 3, 2, 1).does("spoil", 3, 4, 1).gives(4, "complain").gives(1, "about", 4);
+        run.gives(1, "answer", 3, 2, 0).gives(3, "complain").gives(1, "about", 4);
     }
 
     private static void complainWhenClosed() {

@@ -20,6 +20,7 @@ public final class OfferEdgesTest {
         sumsAboveTheMost();
         sumsAtTheEnds();
         sumsThatLeaveOneByOne();
+        sumsThatStay();
         partOutsideTheGroup();
         partThatIsNoNumberOfTheGroup();
         partOfOne();
@@ -31,6 +32,7 @@ public final class OfferEdgesTest {
         proofOfAnotherRound();
         thereIsOneOfThatNode();
         forAnotherNode();
+        forAnotherNodeByItsNumbers();
         ofTheLastNode();
         Run.end();
     }
@@ -89,6 +91,21 @@ public final class OfferEdgesTest {
         run.leaves(0, "offer", 2, 2, LEAST, 0, 0).leaves(0, "offer", 2, 2, 0, LEAST, 0).leaves(0, "offer", 2, 2, 0, 0, LEAST);
         run.leaves(0, "offer", 2, 2, MOST, MOST, MOST).leaves(0, "offer", 2, 2, LEAST, LEAST, LEAST);
         run.gives(1, "offer", 2, 2, 0, 0, 0);
+    }
+
+    /** Other proofs of node 4, which says a small c and a small z: they hold as well, however far away they are. */
+    private static void sumsThatStay() {
+        BigInteger part = base().modPow(key(4), Terms.P);
+        boolean isFarInC = false;
+        boolean isFarInZ = false;
+        for (int w = 1; w <= 40; w++) {
+            Run run = Setups.closed("promise 14: the sums stay");
+            long[] arguments = Proofs.offerBy(run, 4, BigInteger.valueOf(w), base(), part, key(4));
+            isFarInC |= arguments[3] > run.ask("says", 4, 1);
+            isFarInZ |= arguments[4] > run.ask("says", 4, 2);
+            run.gives(1, "offer", arguments).gives(16, "round", 3);
+        }
+        Run.check(isFarInC && isFarInZ, "some of them are more than twice what is said");
     }
 
     /** An offer of node 2 for itself with this much more in one place. */
@@ -231,6 +248,23 @@ public final class OfferEdgesTest {
         run.gives(1, "offer", 3, 1, 0, 0, 0).gives(8, "round", 3).leaves(0, "offer", 3, 3, 0, 0, 0);
         run.leaves(0, "offer", 3, 2, 0, 0, 0).gives(1, "offer", 1, 3, 0, 0, 0).gives(10, "round", 3);
         run.gives(1, "offer", 4, 4, 0, 0, 0).gives(26, "round", 3).gives(1, "offer", 2, 2, 0, 0, 0).gives(30, "round", 3);
+    }
+
+    /** What node 1 says, with so much added that it is what node 2 would say, is kept as the part of node 2. */
+    private static void forAnotherNodeByItsNumbers() {
+        Run run = Setups.closed("promise 14: with these numbers added");
+        long[] arguments = {2, 1, 0, 0, 0};
+        for (int what = 0; what <= 2; what++) {
+            arguments[2 + what] = run.ask("says", 2, what) - run.ask("says", 1, what);
+        }
+        for (int place = 2; place <= 4; place++) {
+            long[] changed = arguments.clone();
+            changed[place]++;
+            run.leaves(0, "offer", changed);
+        }
+        run.gives(1, "offer", arguments).gives(4, "round", 3).leaves(0, "offer", 2, 2, 0, 0, 0);
+        run.gives(1, "offer", 1, 1, 0, 0, 0).gives(6, "round", 3);
+        run.gives(base().modPow(Terms.coefficient(11, 1, 0), Terms.P).longValue(), "publish");
     }
 
     private static void ofTheLastNode() {

@@ -100,7 +100,7 @@ public final class RandomRunsTest {
     }
 
     private Call nextOfRounds() {
-        switch (chance.nextInt(8)) {
+        switch (chance.nextInt(9)) {
             case 0:
                 return new Call("publish");
             case 1:
@@ -109,10 +109,25 @@ public final class RandomRunsTest {
                 return new Call("offer", node(), node(), small(), small(), small());
             case 3:
                 return new Call("offer", node(), node(), 0, chance.nextBoolean() ? Q : 0, edge());
+            case 4:
+                return offerAsAnotherSays();
             default:
                 int node = node();
                 return new Call("offer", node, node, 0, 0, 0);
         }
+    }
+
+    /** What one node says, with so much added that it is what the other one says. */
+    private Call offerAsAnotherSays() {
+        long[] arguments = {node(), node(), 0, 0, 0};
+        for (int what = 0; what <= 2; what++) {
+            String due = new Call("says", arguments[0], what).on(model);
+            String said = new Call("says", arguments[1], what).on(model);
+            if (!due.startsWith("throws") && !said.startsWith("throws")) {
+                arguments[2 + what] = Long.parseLong(due) - Long.parseLong(said);
+            }
+        }
+        return new Call("offer", arguments);
     }
 
     private Call nextLook() {
